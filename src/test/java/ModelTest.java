@@ -6,8 +6,11 @@ import java.util.Random;
 
 /** Long runs of calls beside a second program that does what the document says, word by word and slowly. */
 public final class ModelTest {
-    private static final int RUNS = 600;
+    private static final int RUNS = 1500;
+    // Nothing is promised of an object behind its 512th call; one step makes no more calls than are kept back.
     private static final int CALLS = 512;
+    private static final int KEPT_BACK = 40;
+    private static final int TOKENS_LOOKED_AT = 10;
     private static final Checks checks = new Checks();
 
     private final Random random;
@@ -18,6 +21,7 @@ public final class ModelTest {
     private List<int[]> tokens = new ArrayList<>();
     private int[] made = null;
     private String told;
+    private int calls = 0;
 
     public static void main(String[] args) {
         for (int run = 0; run < RUNS; run++) {
@@ -34,7 +38,7 @@ public final class ModelTest {
     }
 
     private void run() {
-        for (int call = 0; call < CALLS; call++) {
+        while (calls < CALLS - KEPT_BACK) {
             int which = random.nextInt(16);
             if (which < 5) {
                 change(which);
@@ -43,6 +47,7 @@ public final class ModelTest {
             }
         }
         checkRows();
+        checks.holds(calls + " calls are promised", calls <= CALLS);
     }
 
     private int rowNumber() {
@@ -170,6 +175,7 @@ public final class ModelTest {
     }
 
     private void answers(String wrong, long want, Checks.Call call) {
+        calls++;
         if (wrong.equals("IAE")) {
             checks.illegal(told, call::run);
         } else if (wrong.equals("IOOBE")) {
@@ -182,26 +188,36 @@ public final class ModelTest {
         }
     }
 
+    /** As many tokens as the calls allow, from a place at random on, and the sum of all. */
     private void checkTokens() {
-        int sent = 0;
-        checks.due(told + ", then count(2)", desk.count(2), tokens.size());
-        for (int k = 0; k < Math.min(tokens.size(), desk.count(2)); k++) {
-            int[] token = tokens.get(k);
-            sent += token[0] == 0 ? 5 : 3 + token[2];
+        int first = random.nextInt(Math.max(1, tokens.size() - TOKENS_LOOKED_AT + 1));
+        int end = Math.min(tokens.size(), first + TOKENS_LOOKED_AT);
+        for (int k = first; k < end; k++) {
             for (int what = 0; what < 3; what++) {
-                checks.due(told + ", then token(" + k + ", " + what + ")", desk.token(k, what), token[what]);
+                then("token(" + k + ", " + what + ")", desk.token(k, what), tokens.get(k)[what]);
             }
         }
-        checks.due(told + ", then sent()", desk.sent(), sent);
+        int sent = 0;
+        for (int[] token : tokens) {
+            sent += token[0] == 0 ? 5 : 3 + token[2];
+        }
+        then("count(2)", desk.count(2), tokens.size());
+        then("sent()", desk.sent(), sent);
     }
 
+    /** The sums of a whole row tell it in few calls. */
     private void checkRows() {
         for (int r = 0; r < 2; r++) {
-            checks.due(told + ", then count(" + r + ")", desk.count(r), rows[r].length);
-            for (int k = 0; k < Math.min(rows[r].length, desk.count(r)); k++) {
-                checks.due(told + ", then octet(" + r + ", " + k + ")", desk.octet(r, k), rows[r][k]);
-            }
+            int n = rows[r].length;
+            then("count(" + r + ")", desk.count(r), n);
+            then("weak(" + r + ", 0, " + n + ")", desk.weak(r, 0, n), weak(rows[r], 0, n));
+            then("strong(" + r + ", 0, " + n + ")", desk.strong(r, 0, n), strong(rows[r], 0, n));
         }
+    }
+
+    private void then(String call, long got, long want) {
+        calls++;
+        checks.due(told + ", then " + call, got, want);
     }
 
     private static boolean badRow(int r) {

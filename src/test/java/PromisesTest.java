@@ -1,12 +1,5 @@
 /** For each promise of the document: ordinary inputs, the edges that it names, and wrong inputs. */
-public final class PromisesTest {
-    private static final int OLD = 0;
-    private static final int NEW = 1;
-    private static final int LEAST = Integer.MIN_VALUE;
-    private static final int MOST = Integer.MAX_VALUE;
-    private static final int[] NO_ROWS = {-1, 2, LEAST, MOST};
-    private static final Checks checks = new Checks();
-
+public final class PromisesTest extends Desks {
     public static void main(String[] args) {
         newObject();
         size();
@@ -39,49 +32,6 @@ public final class PromisesTest {
         same();
         count();
         checks.end();
-    }
-
-    private static DeltaDesk desk(int[] old, int[] fresh) {
-        DeltaDesk x = new DeltaDesk();
-        fill(x, OLD, old);
-        fill(x, NEW, fresh);
-        return x;
-    }
-
-    private static void fill(DeltaDesk x, int r, int... octets) {
-        x.size(r, octets.length);
-        for (int at = 0; at < octets.length; at += 8) {
-            long v = 0;
-            for (int i = 0; i < 8; i++) {
-                v = v << 8 | (at + i < octets.length ? octets[at + i] : 0);
-            }
-            x.put(r, at, v);
-        }
-    }
-
-    private static int[] row(int... octets) {
-        return octets;
-    }
-
-    private static int[] repeat(int octet, int n) {
-        int[] row = new int[n];
-        java.util.Arrays.fill(row, octet);
-        return row;
-    }
-
-    private static void rowDue(String when, DeltaDesk x, int r, int... want) {
-        checks.due(when + ": octets of row " + r, x.count(r), want.length);
-        for (int k = 0; k < want.length && k < x.count(r); k++) {
-            checks.due(when + ": octet(" + r + ", " + k + ")", x.octet(r, k), want[k]);
-        }
-    }
-
-    /** Tokens are told as kind, first, how many. */
-    private static void tokensDue(String when, DeltaDesk x, int... want) {
-        checks.due(when + ": count(2)", x.count(2), want.length / 3);
-        for (int i = 0; i < want.length && i / 3 < x.count(2); i++) {
-            checks.due(when + ": token(" + i / 3 + ", " + i % 3 + ")", x.token(i / 3, i % 3), want[i]);
-        }
     }
 
     private static void newObject() {
@@ -362,7 +312,7 @@ public final class PromisesTest {
     private static void deltaByBits() {
         DeltaDesk x = desk(row(0, 2, 0, 7), row(1, 0, 1, 7));
         int agree = Long.numberOfTrailingZeros(x.strong(OLD, 0, 4) ^ x.strong(NEW, 0, 4));
-        for (int bits = 0; bits <= 64; bits++) {
+        for (int bits = 0; bits <= 64; bits += 2) {
             x.delta(4, bits);
             tokensDue("delta(4, " + bits + ")", x, bits <= agree ? 0 : 1, 0, bits <= agree ? 1 : 4);
         }

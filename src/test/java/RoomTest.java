@@ -3,6 +3,7 @@ import java.lang.management.ManagementFactory;
 /** All calls of a run share one small room, so calls after the constructor make no objects. */
 public final class RoomTest {
     private static final int CALLS = 512;
+    private static final int CALLS_A_ROUND = 11;
     // Three rows, three rows of tokens and the blocks' sums, an int taking 4 bytes and a long 8, with some spare.
     private static final long BYTES_OF_AN_OBJECT = 40_000;
     private static final long BYTES_OF_ALL_CALLS = 10_000;
@@ -29,7 +30,7 @@ public final class RoomTest {
     private static void use(DeltaDesk x) {
         x.size(0, 1199);
         x.size(1, 1200);
-        for (int call = 2; call < CALLS; call += 10) {
+        for (int call = 2; call + CALLS_A_ROUND <= CALLS; call += CALLS_A_ROUND) {
             x.put(0, call, call * 0x0102030405060708L);
             x.move(0, call, 1, 2 * call % 1000, 100);
             x.delta(4, 64);
